@@ -118,7 +118,13 @@ public final class LimitsTest {
         due.is("8 too late", Fens.STATE, x.go(40));
         due.is("30 beyond ahead of state", Fens.BEYOND, x.falls(21));
         due.is("8 beyond ahead of state", Fens.BEYOND, x.go(61));
+        x.image();
         due.is("8 the last", 99999, x.go(39));
+        x.undo();
+        x.go(20);
+        due.is("30 too late", Fens.STATE, x.falls(20));
+        due.is("30 the last", 19, x.falls(19));
+        due.is("30 the last", 99999, x.now(0));
         due.is("8 no more", Fens.STATE, x.go(1));
         int z = x.count(6);
         due.is("30 no more", Fens.STATE, x.falls(1));

@@ -186,6 +186,21 @@ public final class PondsTest {
         due.is("5 heron in odd minutes", 5, x.of(0, 3));
         x.change(0, 0, 3);
         due.is("5 frog has no eye for fish", 9, x.of(0, 3));
+        ofTheFirst();
+    }
+
+    /** Thing 0 may be the fish, and pond 0 the shower. */
+    private static void ofTheFirst() {
+        PondLenses x = new PondLenses();
+        x.thing(1, 0);
+        x.thing(6, 15);
+        due.is("5 pike, thing 0 shown", 0, x.of(1, 3));
+        x.change(1, 0, 4);
+        x.change(1, 1, 1);
+        due.is("5 heron, thing 0 in pond 0", 0, x.of(1, 3));
+        due.is("5 fish", 0, x.of(0, 3));
+        x.rain(1);
+        due.is("5 heron in rain", 1, x.of(1, 3));
     }
 
     private static void promise6() {

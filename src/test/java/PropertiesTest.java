@@ -7,15 +7,35 @@ public final class PropertiesTest {
         for (int i = 0; i < FENS; i++) {
             chainsAreStepsInARow(new Fens(i).fen());
             roundsAreWhatStepsTell(new Fens(i).fen());
-            whatWillBeIsWhatComes(new Fens(i), i);
+            PondLenses x = new Fens(i).fen();
+            whatWillBeIsWhatComes(i, i % x.count(1), i / 8 % x.count(1), i % 16);
             usualPondIsCounted(new Fens(i), i);
-            kindForIsTried(i);
+            kindForIsTried(i, i % x.count(1));
             lensesAreTried(new Fens(i), i);
             coursesAreFollowed(new Fens(i), i);
             eyesAreTheFewest(new Fens(i).fen());
             dredgingFindsAlikes(new Fens(i).fen(), i);
         }
+        lastMinutes();
         due.end();
+    }
+
+    /** Fens that were searched for: in these the last minute that counts makes the difference. */
+    private static void lastMinutes() {
+        due.is("19 in minute 100", 100, new Fens(576402).fen().comes(3, 12));
+        due.is("19 in minute 100", 100, new Fens(1463666).fen().comes(0, 10));
+        due.is("19 in minute 101", Fens.NONE, new Fens(1463666).fen().comes(0, 2));
+        due.is("21 in minute 100", 100, new Fens(10083).fen().meet(7, 5));
+        due.is("21 in minute 101", Fens.NONE, new Fens(13402).fen().meet(7, 1));
+        for (int pond = 0; pond < 16; pond++) {
+            whatWillBeIsWhatComes(576402, 3, 0, pond);
+            whatWillBeIsWhatComes(1463666, 0, 0, pond);
+        }
+        whatWillBeIsWhatComes(10083, 7, 5, 0);
+        whatWillBeIsWhatComes(13402, 7, 1, 0);
+        // Of 59 minutes, and of 61, another kind would be told.
+        kindForIsTried(1385851, 4);
+        kindForIsTried(320910, 3);
     }
 
     private static void chainsAreStepsInARow(PondLenses x) {
@@ -81,11 +101,9 @@ public final class PropertiesTest {
         due.is("15 rounds", roundsAsParts / 720720, x.rounds());
     }
 
-    private static void whatWillBeIsWhatComes(Fens fens, int turn) {
+    private static void whatWillBeIsWhatComes(int fen, int thing, int other, int pond) {
+        Fens fens = new Fens(fen);
         PondLenses x = fens.fen();
-        int thing = turn % x.count(1);
-        int other = (turn / 8) % x.count(1);
-        int pond = turn % 16;
         int n = fens.draw(101);
         int comes = x.comes(thing, pond);
         int seen = x.seen(thing, pond);
@@ -137,12 +155,11 @@ public final class PropertiesTest {
         return best;
     }
 
-    private static void kindForIsTried(int turn) {
-        PondLenses asIs = new Fens(turn).fen();
-        int thing = turn % asIs.count(1);
+    private static void kindForIsTried(int fen, int thing) {
+        PondLenses asIs = new Fens(fen).fen();
         int[] reach = new int[7];
         for (int kind = 0; kind <= 6; kind++) {
-            PondLenses x = new Fens(turn).fen();
+            PondLenses x = new Fens(fen).fen();
             x.change(thing, 0, kind);
             int set = 1 << x.of(thing, 1);
             for (int i = 0; i < 60; i++) {

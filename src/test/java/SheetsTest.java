@@ -75,8 +75,11 @@ public final class SheetsTest {
         due.is("38 n 41", Fens.BEYOND, x.sheet(0, 8, 41));
         due.is("38 n 41 with bits 0", Fens.BEYOND, x.sheet(0, 0, 41));
         due.is("38 stays", 1, x.write(0, 39, 7));
+        Fens.tell(x, 0, 7, 7, 7);
         due.is("38 anew", 40, x.sheet(0, 8, 40));
         due.is("38 all 0", 16, x.load(0));
+        due.is("38 the first", 0, x.pond(0, 5));
+        due.is("38 the third", 0, x.pond(2, 5));
         due.is("38 missing", 0, x.sheet(0, 0, 40));
         due.is("38 is missing", Fens.MISSING, x.write(0, 0, 1));
         due.is("38 other stays", 1, x.write(3, 0, 1));

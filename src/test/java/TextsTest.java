@@ -110,6 +110,7 @@ public final class TextsTest {
             "pond 3 turned 1 size 1", "pond 3 flipped turned 1", "pond 3 ditch 1 flipped", "rain 1", "rain dry",
             "dry;;dry", "rain\n", "\train", "rain;dry;\u00e9", "fish in 3;duck in 17;,", "fish in -1", "ponds 3",
             "swan", "fish in 3 long 9 9", "a", "pond 3 shows size 3", "pond 3 long 3", "fish depth 3", "rain;sun",
+            "gish", "fisk", "fis", "bond 3", "rainy", "fish on 3", "pond 3 sizes 3", "fish;pike long 3;;",
         };
         int[] places = {
             0, 3, 0, 5, 6, 5, 4, 0, 7, 8, 8,
@@ -121,6 +122,7 @@ public final class TextsTest {
             16, 15, 15, 5, 5,
             4, 4, 0, 9, 18, 8, 0,
             0, 17, 0, 13, 7, 5, 5,
+            0, 0, 0, 0, 0, 5, 7, 17,
         };
         due.is("35 as many places as texts", texts.length, places.length);
         for (int i = 0; i < texts.length; i++) {
@@ -167,6 +169,7 @@ public final class TextsTest {
         due.is("35 120 letters", -1, Fens.read(x, "a".repeat(120)));
         due.is("35 120 digits", -1, Fens.read(x, "1".repeat(120)));
         due.is("35 120 signs", -1, Fens.read(x, ";".repeat(120)));
+        due.is("35 120 words and numbers", -1, Fens.read(x, "a1".repeat(60)));
         due.is("35 a long number", -10, Fens.read(x, "fish long" + "9".repeat(111)));
         due.is("35 many zeros", 1, Fens.read(x, "fish long" + "0".repeat(109) + "77"));
         due.is("35 many zeros", 77, x.of(0, 2));
