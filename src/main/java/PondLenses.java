@@ -1361,16 +1361,11 @@ public final class PondLenses {
             for (int what = SHOWS; what <= DEPTH; what++) {
                 if (hasWord(Tokens.TRAITS + what)) {
                     tokens.advance();
-                    draft.ponds[what][pond] = readTrait(what, pond);
+                    // The word flipped says all itself; behind each other one stands a number.
+                    draft.ponds[what][pond] = what == FLIPPED ? 1
+                        : readNumber(POND_LEAST[what], POND_MOST[what], what == SHOWS ? pond : -1);
                 }
             }
-        }
-
-        private int readTrait(int what, int pond) {
-            if (what == FLIPPED) {
-                return 1;
-            }
-            return readNumber(POND_LEAST[what], POND_MOST[what], what == SHOWS ? pond : -1);
         }
 
         /** The number that stands here, if it is as told; else there is a fault, and the least. */

@@ -11,6 +11,14 @@ final class Due {
         }
     }
 
+    void says(String call, String want, String got) {
+        asked++;
+        if (!want.equals(got)) {
+            wrong++;
+            System.out.println(call + " told \"" + got + "\", due is \"" + want + "\"");
+        }
+    }
+
     void end() {
         System.out.println(asked + " answers, " + wrong + " not as due");
         if (wrong != 0) {

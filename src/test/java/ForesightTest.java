@@ -9,6 +9,10 @@ public final class ForesightTest {
         promise21();
         promise22();
         promise23();
+        lastMinutes();
+        meetLate();
+        castLate();
+        otherThings();
         due.end();
     }
 
@@ -117,6 +121,91 @@ public final class ForesightTest {
         due.is("23 thing 1", Fens.BEYOND, x.kindFor(1));
         due.is("23 thing -1", Fens.BEYOND, x.kindFor(-1));
         nowCountsToo();
+    }
+
+    /** Minute 100 counts in comes() and seen(), minute 60 in kindFor(); one more doesn't. */
+    private static void lastMinutes() {
+        PondLenses x = Fens.chase(0, 5);
+        due.is("19 in minute 99", 99, x.comes(1, 0));
+        due.is("19 in minute 100", 100, x.comes(1, 8));
+        due.is("19 in minute 101", Fens.NONE, x.comes(1, 9));
+        due.is("20 in minute 99", 99, x.seen(1, 8));
+        due.is("20 in minute 100", 100, x.seen(1, 9));
+        due.is("20 in minute 101", Fens.NONE, x.seen(1, 10));
+        due.is("18 in minute 99", 0, x.ahead(1, 99));
+        due.is("18 in minute 100", 8, x.ahead(1, 100));
+        due.is("19 the first time", 0, x.comes(1, 5));
+        due.is("20 the first time", 0, x.seen(1, 4));
+        due.is("20 the first time, in the other too", 0, x.seen(1, 0));
+        x.go(1);
+        due.is("19 a minute less", 100, x.comes(1, 9));
+        due.is("20 a minute less", 100, x.seen(1, 10));
+        due.is("23 nothing new in 60", 2, x.kindFor(1));
+        PondLenses y = Fens.chase(9, 3);
+        due.is("23 something new in minute 61", 61, y.comes(1, 0));
+        due.is("23 counts not", 2, y.kindFor(1));
+        y.go(1);
+        due.is("23 something new in minute 60", 60, y.comes(1, 0));
+        due.is("23 counts", 4, y.kindFor(1));
+    }
+
+    /** A duck swims round 10 ponds, a fish round 11; the five of both stand in a row in either. */
+    private static PondLenses rings(int duck, int fish) {
+        PondLenses x = new PondLenses();
+        x.dig(9, 0, 0);
+        int[] ring = {0, 1, 2, 3, 4, 10, 11, 12, 13, 14, 15};
+        for (int i = 0; i < 11; i++) {
+            x.dig(ring[i], 4, ring[(i + 1) % 11]);
+        }
+        x.thing(2, duck);
+        x.thing(1, fish);
+        return x;
+    }
+
+    private static void meetLate() {
+        due.is("21 now", 0, rings(4, 4).meet(0, 1));
+        due.is("21 in minute 1", 1, rings(9, 15).meet(0, 1));
+        due.is("21 in minute 100", 100, rings(0, 15).meet(0, 1));
+        due.is("21 the other way", 100, rings(0, 15).meet(1, 0));
+        due.is("21 in minute 101", Fens.NONE, rings(9, 14).meet(0, 1));
+    }
+
+    /** A duck in 3 ponds by turns: the one that comes first is most only behind 1 more than each third. */
+    private static void castLate() {
+        PondLenses x = new PondLenses();
+        x.dig(8, 0, 7);
+        x.dig(7, 0, 9);
+        x.dig(9, 0, 8);
+        x.thing(2, 7);
+        due.is("22 in 99, the least", 7, x.cast(0, 99));
+        due.is("22 in 100, the most", 9, x.cast(0, 100));
+        due.is("22 in 2, the least", 8, x.cast(0, 2));
+        due.is("22 in 1, not now", 9, x.cast(0, 1));
+        due.is("22 in 3, not now", 7, x.cast(0, 3));
+    }
+
+    /** The others move too, and each minute rains as now. */
+    private static void otherThings() {
+        PondLenses x = new PondLenses();
+        x.thing(1, 3);
+        x.thing(6, 5);
+        x.dig(3, 4, 6);
+        due.is("18 a fish will be there by then", 6, x.ahead(1, 1));
+        due.is("19 a fish will be there by then", 1, x.comes(1, 6));
+        due.is("21 a fish will be there by then", 1, x.meet(1, 0));
+        due.is("18 and stays with it", 6, x.ahead(1, 2));
+        due.is("23 as a duck it comes further", 2, x.kindFor(1));
+        x.rain(1);
+        due.is("18 in rain", 7, x.ahead(0, 1));
+        due.is("18 in rain, no fish there", 6, x.ahead(1, 1));
+        PondLenses y = new PondLenses();
+        y.thing(3, 3);
+        y.go(1);
+        due.is("18 an odd minute first", 4, y.ahead(0, 1));
+        due.is("18 then an even one", 5, y.ahead(0, 2));
+        due.is("19 an odd minute first", 2, y.comes(0, 5));
+        due.is("22 an odd minute first", 4, y.cast(0, 1));
+        due.is("22 two in each", 5, y.cast(0, 3));
     }
 
     /** As a fish it is in 3 and 4, as a duck in 5, 6 and, now, 3. */

@@ -5,6 +5,8 @@ public final class MinutesTest {
     public static void main(String[] args) {
         promise8();
         byNumbers();
+        heronsByNumbers();
+        evenAndOdd();
         promise9();
         due.end();
     }
@@ -48,6 +50,53 @@ public final class MinutesTest {
         y.go(1);
         due.is("8 pike in time", 4, y.of(0, 1));
         due.is("8 fish", 9, y.of(1, 1));
+    }
+
+    private static void heronsByNumbers() {
+        PondLenses x = new PondLenses();
+        x.dig(4, 4, 9);
+        x.thing(1, 4);
+        x.thing(4, 5);
+        due.is("8 a fish is behind the heron now", 4, x.of(1, 3));
+        x.go(1);
+        due.is("8 but has gone by then", 6, x.of(1, 1));
+        PondLenses y = new PondLenses();
+        y.dig(4, 4, 9);
+        y.thing(4, 5);
+        y.thing(1, 4);
+        y.go(1);
+        due.is("8 heron in time", 4, y.of(0, 1));
+        PondLenses z = new PondLenses();
+        z.dig(3, 4, 4);
+        z.thing(1, 3);
+        z.thing(4, 5);
+        z.go(1);
+        due.is("8 a fish has come by then", 4, z.of(1, 1));
+    }
+
+    /** MINUTE is even or odd as it was ahead of the minute that goes by, in each of many at once. */
+    private static void evenAndOdd() {
+        PondLenses x = new PondLenses();
+        x.thing(3, 0);
+        x.thing(4, 8);
+        int[] frog = {1, 1, 2, 2, 3, 3, 4};
+        for (int i = 0; i < frog.length; i++) {
+            due.is("8 minute", i + 1, x.go(1));
+            due.is("8 frog behind minute " + i, frog[i], x.of(0, 1));
+            due.is("8 heron behind minute " + i, 8 + frog[i], x.of(1, 1));
+        }
+        PondLenses y = new PondLenses();
+        y.thing(3, 0);
+        due.is("8 three", 3, y.go(3));
+        due.is("8 frog behind three", 2, y.of(0, 1));
+        due.is("8 four more", 7, y.go(4));
+        due.is("8 frog behind seven", 4, y.of(0, 1));
+        due.is("8 one more", 8, y.go(1));
+        due.is("8 frog at rest", 4, y.of(0, 1));
+        due.is("8 in rain", 9, y.rain(1) + y.go(1));
+        due.is("8 frog in rain", 6, y.of(0, 1));
+        due.is("8 in rain", 10, y.go(1));
+        due.is("8 frog at rest in rain", 7, y.of(0, 1));
     }
 
     private static void promise9() {

@@ -7,9 +7,15 @@ public final class PondsTest {
         promise2();
         promise3();
         promise4();
+        numbersGoOn();
         promise5();
         nextPonds();
         nextOfPikeAndHeron();
+        nextOfCork();
+        nextInRain();
+        herons();
+        pikes();
+        eightThings();
         promise6();
         promise7();
         due.end();
@@ -53,6 +59,11 @@ public final class PondsTest {
         due.is("2 none shows its own", 0, x.pond(4, 7));
         x.dig(15, 0, 3);
         due.is("2 seen in 15", 5, x.pond(15, 7));
+        x.thing(0, 0);
+        due.is("2 seen in 15 no more", 5, x.pond(15, 7));
+        x.dig(15, 0, 0);
+        due.is("2 what is in 0 is seen in 15", 8, x.pond(15, 7));
+        due.is("2 in 0", 8, x.pond(0, 6));
         due.is("2 pond 16", Fens.BEYOND, x.pond(16, 0));
         due.is("2 pond -1", Fens.BEYOND, x.pond(-1, 0));
         due.is("2 what 8", Fens.BEYOND, x.pond(0, 8));
@@ -100,6 +111,25 @@ public final class PondsTest {
         due.is("4 length", 9, x.of(6, 2));
     }
 
+    /** The number of a new thing is how many there are, also where undo() has taken some back. */
+    private static void numbersGoOn() {
+        PondLenses x = new PondLenses();
+        due.is("4 the first", 0, x.thing(0, 15));
+        x.image();
+        due.is("4 the second", 1, x.thing(6, 0));
+        x.undo();
+        due.is("4 the second again", 1, x.thing(5, 7));
+        due.is("4 as told", 5, x.of(1, 0));
+        due.is("4 where told", 7, x.of(1, 1));
+        while (x.count(1) < 8) {
+            x.change(x.thing(1, 1), 2, 99);
+        }
+        due.is("4 full", Fens.FULL, x.thing(0, 0));
+        x.undo();
+        due.is("4 full no more", 1, x.thing(0, 0));
+        due.is("4 as long as at first", 9, x.of(1, 2));
+    }
+
     private static void promise5() {
         PondLenses x = new PondLenses();
         due.is("5 no thing", Fens.BEYOND, x.of(0, 0));
@@ -143,13 +173,148 @@ public final class PondsTest {
             x.change(0, 1, 3);
             due.is("5 next, odd, of " + kind, odd[kind], x.of(0, 3));
         }
+    }
+
+    private static void nextOfCork() {
         PondLenses x = new PondLenses();
         x.thing(5, 3);
         x.dig(3, 4, 11);
+        x.dig(11, 5, 0);
+        due.is("5 cork less long than deep", 3, x.of(0, 3));
         x.change(0, 2, 10);
         due.is("5 cork as long as deep", 3, x.of(0, 3));
         x.change(0, 2, 11);
         due.is("5 cork longer than deep", 11, x.of(0, 3));
+        x.change(0, 2, 99);
+        x.dig(3, 5, 99);
+        due.is("5 cork of most and most deep", 3, x.of(0, 3));
+        x.dig(3, 5, 98);
+        due.is("5 cork longer by 1", 11, x.of(0, 3));
+        x.change(0, 2, 1);
+        x.dig(3, 5, 1);
+        due.is("5 cork of 1, 1 deep", 3, x.of(0, 3));
+        x.dig(3, 5, 0);
+        due.is("5 cork of 1, not deep", 11, x.of(0, 3));
+        x.dig(3, 4, 3);
+        due.is("5 cork, a ditch to itself", 3, x.of(0, 3));
+    }
+
+    /** What would be the pond p without rain is p + 1 in it, and 0 for 15, for each way to a pond. */
+    private static void nextInRain() {
+        for (int p : new int[] {0, 4, 14, 15}) {
+            int wet = p == 15 ? 0 : p + 1;
+            PondLenses x = new PondLenses();
+            x.rain(1);
+            x.thing(0, p);
+            due.is("5 a thing in rain, " + p, wet, x.of(0, 3));
+            x.change(0, 0, 5);
+            due.is("5 a cork in rain stays, " + p, wet, x.of(0, 3));
+            x.change(0, 1, 7);
+            x.dig(7, 4, p);
+            x.dig(7, 5, 8);
+            due.is("5 a cork in rain, " + p, wet, x.of(0, 3));
+            x.change(0, 0, 1);
+            due.is("5 a fish in rain, " + p, wet, x.of(0, 3));
+            x.change(0, 0, 6);
+            due.is("5 a pike in rain, " + p, wet, x.of(0, 3));
+            x.dig(7, 4, 7);
+            x.dig(7, 0, p);
+            x.thing(1, p);
+            due.is("5 a pike behind a fish in rain, " + p, wet, x.of(0, 3));
+            x.change(0, 0, 2);
+            due.is("5 a duck in rain, " + p, wet, x.of(0, 3));
+            x.change(0, 0, 3);
+            due.is("5 a frog in rain, " + p, wet, x.of(0, 3));
+            x.change(0, 0, 4);
+            due.is("5 a heron in rain, " + p, wet, x.of(0, 3));
+            for (int from = 0; from < 16; from++) {
+                x.dig(from, 0, from == p ? 7 : from == 6 ? 5 : 6);
+            }
+            due.is("5 a heron behind a fish in rain, " + p, wet, x.of(0, 3));
+            x.go(1);
+            x.change(0, 1, p);
+            due.is("5 a heron at rest in rain, " + p, wet, x.of(0, 3));
+            x.change(0, 0, 3);
+            due.is("5 a frog at rest in rain, " + p, wet, x.of(0, 3));
+        }
+    }
+
+    private static void herons() {
+        PondLenses x = new PondLenses();
+        x.thing(4, 9);
+        x.thing(1, 12);
+        x.dig(12, 0, 9);
+        due.is("5 heron, a fish in 12, 8 is less", 10, x.of(0, 3));
+        x.thing(1, 8);
+        due.is("5 heron, fish in both", 8, x.of(0, 3));
+        x.change(2, 1, 10);
+        due.is("5 heron, a fish where it would go", 10, x.of(0, 3));
+        x.change(2, 1, 9);
+        due.is("5 heron, a fish beside it", 10, x.of(0, 3));
+        x.dig(8, 0, 7);
+        due.is("5 heron, 12 is the least now", 12, x.of(0, 3));
+        x.dig(15, 0, 9);
+        due.is("5 heron, 12 is still the least", 12, x.of(0, 3));
+        for (int kind : new int[] {0, 2, 3, 4, 5}) {
+            x.change(1, 0, kind);
+            due.is("5 heron, no fish but a " + kind, 10, x.of(0, 3));
+        }
+        x.change(1, 0, 6);
+        due.is("5 heron, a pike", 12, x.of(0, 3));
+        x.go(1);
+        x.change(0, 1, 9);
+        x.change(1, 1, 12);
+        due.is("5 heron, a pike, odd", 12, x.of(0, 3));
+        x.change(1, 1, 11);
+        due.is("5 heron, no fish there, odd", 9, x.of(0, 3));
+        x.change(0, 0, 3);
+        x.change(1, 1, 12);
+        due.is("5 a frog isn't a heron", 9, x.of(0, 3));
+        x.change(0, 0, 2);
+        due.is("5 nor is a duck", 10, x.of(0, 3));
+    }
+
+    private static void pikes() {
+        PondLenses x = new PondLenses();
+        x.thing(6, 9);
+        x.dig(9, 4, 3);
+        due.is("5 a pike alone", 3, x.of(0, 3));
+        x.thing(1, 3);
+        due.is("5 a fish where the ditch leads", 3, x.of(0, 3));
+        x.change(1, 1, 8);
+        due.is("5 a fish in what shows its own", 3, x.of(0, 3));
+        for (int kind = 0; kind <= 6; kind++) {
+            x.change(1, 0, kind);
+            x.change(1, 1, 10);
+            due.is("5 a pike sees kind " + kind, kind == 1 || kind == 6 ? 10 : 3, x.of(0, 3));
+        }
+        x.change(0, 0, 1);
+        due.is("5 a fish isn't a pike", 3, x.of(0, 3));
+    }
+
+    private static void eightThings() {
+        PondLenses x = new PondLenses();
+        for (int thing = 0; thing < 8; thing++) {
+            x.thing(thing == 7 ? 1 : 0, 15);
+            x.change(thing, 2, 99);
+        }
+        due.is("2 all in 15", 255, x.pond(15, 6));
+        due.is("2 all seen in 14", 255, x.pond(14, 7));
+        due.is("5 thing 7", 1, x.of(7, 0));
+        due.is("6 thing 7", 15, x.change(7, 1, 0));
+        due.is("2 thing 7 in 0", 128, x.pond(0, 6));
+        due.is("5 thing 7 is seen in 15", 1 << 15, x.of(7, 4));
+        due.is("9 lengths", 792, x.now(4));
+        due.is("9 ponds", 1 | 1 << 15, x.now(1));
+        due.is("9 sights", 1 << 14 | 1 << 15, x.now(2));
+        x.change(0, 0, 6);
+        x.dig(15, 4, 3);
+        due.is("5 a pike sees thing 7", 0, x.of(0, 3));
+        for (int pond = 1; pond < 16; pond++) {
+            x.dig(pond, 0, 0);
+        }
+        due.is("5 seen in all but its own", 65534, x.of(7, 4));
+        due.is("9 sights", 65534, x.now(2));
     }
 
     private static void nextOfPikeAndHeron() {
