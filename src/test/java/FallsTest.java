@@ -4,7 +4,9 @@ public final class FallsTest {
 
     public static void main(String[] args) {
         promise30();
+        eachFall();
         promise31();
+        oddsOfEach();
         promise32();
         due.end();
     }
@@ -53,6 +55,45 @@ public final class FallsTest {
         due.is("30 many see one", 15, y.count(3));
     }
 
+    /** One thing and eight, one fall and twenty: the draws, the order, the minutes. */
+    private static void eachFall() {
+        for (int things = 1; things <= 8; things++) {
+            PondLenses x = new PondLenses();
+            int[] place = new int[things];
+            for (int thing = 0; thing < things; thing++) {
+                place[thing] = x.of(x.thing(0, thing), 1);
+            }
+            int z = -1 - things;
+            x.seed(z);
+            int falls = things % 2 == 1 ? 20 : 1;
+            int sights = 0;
+            for (int i = 0; i < falls; i++) {
+                z = z * 1103515245 + 12345;
+                int thing = (z >>> 8) % things;
+                z = z * 1103515245 + 12345;
+                place[thing] = (z >>> 8) % 16;
+                int set = 0;
+                for (int at : place) {
+                    set |= 1 << at;
+                }
+                sights += Integer.bitCount(set);
+            }
+            due.is("30 sights of " + things, sights, x.falls(falls));
+            due.is("30 z of " + things, z, x.count(6));
+            due.is("30 minute of " + things, falls, x.now(0));
+            for (int thing = 0; thing < things; thing++) {
+                due.is("30 place of " + thing, place[thing], x.of(thing, 1));
+            }
+        }
+        PondLenses none = new PondLenses();
+        none.seed(-5);
+        due.is("30 no things, twenty falls", 0, none.falls(20));
+        due.is("30 no draws", -5, none.count(6));
+        due.is("30 but minutes", 20, none.now(0));
+        due.is("30 one more", 0, none.falls(1));
+        due.is("30 a minute", 21, none.now(0));
+    }
+
     private static void promise31() {
         PondLenses x = new PondLenses();
         due.is("31 no looks", 1, x.odds(0, 0));
@@ -85,6 +126,35 @@ public final class FallsTest {
         due.is("31 counted", 4, x.status(0));
     }
 
+    /** How many ponds of 16 see nothing, and what of that stands above and below the line. */
+    private static void oddsOfEach() {
+        int[] above = {1, 15, 7, 13, 3, 11, 5, 9, 1, 7, 3, 5, 1, 3, 1, 1, 0};
+        int[] below = {1, 16, 8, 16, 4, 16, 8, 16, 2, 16, 8, 16, 4, 16, 8, 16, 1};
+        for (int sights = 0; sights <= 16; sights++) {
+            PondLenses x = new PondLenses();
+            // As many ponds as are to see something, from 1 on, show pond 0; pond 0 shows 1.
+            for (int pond = 0; pond < 16; pond++) {
+                int shown = pond == 0 ? 1 : pond <= Math.min(sights, 15) ? 0 : 7;
+                x.dig(pond, 0, shown == pond ? 8 : shown);
+            }
+            if (sights > 0) {
+                x.thing(0, 0);
+            }
+            if (sights == 16) {
+                x.thing(0, 1);
+            }
+            due.is("31 sights", sights, x.count(3));
+            long up = 1;
+            long down = 1;
+            for (int n = 0; n <= 12; n++) {
+                due.is("31 above of " + sights + ", n " + n, up, x.odds(n, 0));
+                due.is("31 below of " + sights + ", n " + n, down, x.odds(n, 1));
+                up *= above[sights];
+                down *= below[sights];
+            }
+        }
+    }
+
     private static void promise32() {
         PondLenses x = new PondLenses();
         due.is("32 at first", 1, x.seed(Fens.BEYOND));
@@ -94,6 +164,15 @@ public final class FallsTest {
         due.is("32 again", Integer.MIN_VALUE, x.seed(Fens.NONE));
         due.is("32 told", Fens.NONE, x.count(6));
         due.is("32 no finding", 0, x.status(-1));
+        due.is("32 the greatest", Fens.NONE, x.seed(Integer.MAX_VALUE));
+        due.is("32 told", Integer.MAX_VALUE, x.seed(0));
+        due.is("32 none", 0, x.count(6));
+        for (int finding = Fens.BEYOND; finding >= Fens.SIZE; finding--) {
+            x.seed(finding);
+            due.is("46 z, no finding", finding, x.count(6));
+            due.is("32 z, no finding", finding, x.seed(7));
+        }
+        due.is("32 no finding at all", 0, x.status(-1));
         x.thing(0, 0);
         x.seed(-12345);
         x.falls(1);

@@ -5,9 +5,12 @@ public final class ImagesTest {
     public static void main(String[] args) {
         promises43And44();
         latest();
+        firstImage();
         promise45();
         promise46();
+        countsAtMost();
         promise47();
+        eachFinding();
         dueFindingsChangeNothing();
         due.end();
     }
@@ -68,6 +71,35 @@ public final class ImagesTest {
         due.is("44 the latest stays", 1, x.undo());
     }
 
+    /** An image of a new fen is one too; what was done since is undone, as often as asked. */
+    private static void firstImage() {
+        PondLenses x = new PondLenses();
+        due.is("43 of a new one", 1, x.image());
+        for (int turn = 0; turn < 3; turn++) {
+            Fens.read(x, "pike in 3;pond 0 shows 9;rain");
+            x.hold(9, 0);
+            x.falls(20);
+            x.go(60);
+            due.is("44 to the begin", 0, x.undo());
+            due.is("44 no things", 0, x.count(1));
+            due.is("44 no spots", 0, x.count(7));
+            due.is("44 dry", 0, x.now(3));
+            due.is("44 z", 1, x.count(6));
+            due.is("44 shows", 1, x.pond(0, 0));
+        }
+        x.thing(4, 4);
+        due.is("43 a later one", 1, x.image());
+        due.is("44 it is later", 0, x.undo());
+        due.is("44 a thing", 1, x.count(1));
+        due.is("45 torn", 1, x.tear());
+        due.is("45 what is stays", 1, x.count(1));
+        due.is("44 none", Fens.NONE, x.undo());
+        due.is("44 what is stays", 1, x.count(1));
+        due.is("44 none again", Fens.NONE, x.undo());
+        due.is("45 none", 0, x.tear());
+        due.is("47 undo found none twice", 2, x.status(3));
+    }
+
     private static void promise45() {
         PondLenses x = new PondLenses();
         due.is("45 nothing", 0, x.tear());
@@ -101,6 +133,32 @@ public final class ImagesTest {
         }
         due.is("46 what 8", Fens.BEYOND, x.count(8));
         due.is("46 what -1", Fens.BEYOND, x.count(-1));
+    }
+
+    private static void countsAtMost() {
+        PondLenses x = new PondLenses();
+        for (int thing = 0; thing < 8; thing++) {
+            x.thing(0, 2 * thing);
+            x.change(thing, 2, 99);
+            x.hold(thing, thing);
+        }
+        x.hold(8, 0);
+        x.hold(9, 0);
+        Fens.feed(x, " ".repeat(120));
+        x.seed(Integer.MIN_VALUE);
+        int[] want = {0, 8, 8, 8, 792, 120, Integer.MIN_VALUE, 10};
+        for (int what = 0; what <= 7; what++) {
+            due.is("46 most, count " + what, want[what], x.count(what));
+        }
+        for (int pond = 0; pond < 16; pond++) {
+            x.dig(pond, 0, pond == 1 ? 2 : pond / 2 * 2 == pond ? (pond + 2) % 16 : pond - 1);
+        }
+        due.is("46 all see something", 16, x.count(3));
+        for (int thing = 0; thing < 8; thing++) {
+            x.change(thing, 1, 15);
+        }
+        due.is("46 one pond", 1, x.count(2));
+        due.is("46 seen nowhere", 0, x.count(3));
     }
 
     private static void promise47() {
@@ -137,6 +195,36 @@ public final class ImagesTest {
             all += want[which];
         }
         due.is("47 all", all, x.status(-1));
+    }
+
+    /** Each finding is counted where it belongs, also by acts that would change nothing anyway. */
+    private static void eachFinding() {
+        PondLenses x = new PondLenses();
+        x.image();
+        x.thing(0, 3);
+        long[] answers = {
+            x.pond(16, 0), x.odds(13, 0), x.comes(0, 4), x.seen(0, 4), x.large(0, 0, 0), x.as(0, 0), x.fits(0, 0),
+            x.sheet(0, 0, -5), x.status(7), x.status(-2), x.undo(), x.tear(), x.undo(), x.go(-1),
+        };
+        int[] want = {0, 0, 0, 0, 0, 0, 0};
+        int all = 0;
+        for (long answer : answers) {
+            if (answer <= Fens.BEYOND) {
+                want[(int) (Fens.BEYOND - answer)]++;
+                all++;
+            }
+        }
+        due.is("47 so many", 12, all);
+        for (int which = 0; which <= 6; which++) {
+            due.is("47 of " + which, want[which], x.status(which));
+        }
+        due.is("47 all", all, x.status(-1));
+        due.is("47 no other one", Fens.BEYOND, x.status(Integer.MAX_VALUE));
+        due.is("47 counted from then on", all + 1, x.status(-1));
+        due.is("35 no finding", -1, x.text());
+        x.seed(Fens.FULL);
+        due.is("32 no finding", Fens.FULL, x.seed(1));
+        due.is("47 no more", all + 1, x.status(-1));
     }
 
     private static void dueFindingsChangeNothing() {

@@ -12,6 +12,7 @@ public final class LimitsTest {
             wild(new Fens(1000 + run), run % 2 == 0 ? FAR.length : 12);
         }
         lateMinutes();
+        lateCalls();
         due.end();
     }
 
@@ -105,6 +106,36 @@ public final class LimitsTest {
             case 45: return x.count(a[0]);
             default: return x.status(a[0]);
         }
+    }
+
+    /** Many calls on one object, up to the 512th, answer as the first of them do. */
+    private static void lateCalls() {
+        for (int call = 0; call < CALLS; call++) {
+            PondLenses x = Fens.lived();
+            Fens.row(x, 3, 32, -1, 0, -1, -1);
+            PondLenses y = Fens.lived();
+            Fens.row(y, 3, 32, -1, 0, -1, -1);
+            x.image();
+            long first = 0;
+            for (int i = 0; i < 200; i++) {
+                x.undo();
+                long answer = one(x, call, new int[] {1, 1, 1, 1, 1});
+                first = i == 0 ? answer : first;
+            }
+            // All answers but those on what no image keeps stay what they are.
+            boolean kept = call != 30 && call != 32 && call != 33 && call != 42 && call != 43 && call != 46;
+            if (kept) {
+                x.undo();
+                due.is("the last of many, " + call, one(y, call, new int[] {1, 1, 1, 1, 1}), first);
+                due.is("the last of many, " + call, first, one(x, call, new int[] {1, 1, 1, 1, 1}));
+            }
+        }
+        PondLenses x = new PondLenses();
+        x.thing(2, 0);
+        for (int i = 1; i < 511; i++) {
+            x.go(60);
+        }
+        due.is("8 the 512th call", 511 * 60, x.go(60));
     }
 
     /** Far behind the 512th call, the only way to where minutes end. */

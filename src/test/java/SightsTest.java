@@ -5,8 +5,11 @@ public final class SightsTest {
     public static void main(String[] args) {
         promises24And25();
         overMinutes();
+        fortyNumbers();
+        ofEachBits();
         lacks();
         promise26();
+        fortyPlaces();
         due.end();
     }
 
@@ -60,6 +63,112 @@ public final class SightsTest {
         x.sheet(1, 8, 1);
         x.write(1, 0, 255);
         due.is("24 of 8 bits 255 is any", 15, x.fits(1, 4));
+    }
+
+    /** A fish in 16 ponds by turns: in minute 39, the last that a sheet can tell, it is 7 ponds on. */
+    private static PondLenses roundFish() {
+        PondLenses x = new PondLenses();
+        for (int pond = 0; pond < 16; pond++) {
+            x.dig(pond, 4, (pond + 1) % 16);
+        }
+        x.thing(1, 3);
+        return x;
+    }
+
+    private static int[] anyBut(int last) {
+        int[] told = new int[40];
+        java.util.Arrays.fill(told, -1);
+        told[39] = last;
+        return told;
+    }
+
+    private static void fortyNumbers() {
+        PondLenses x = roundFish();
+        Fens.tell(x, 0, anyBut(1));
+        for (int pond = 0; pond < 16; pond++) {
+            due.is("24 in minute 39, by " + pond, pond == 10 ? 0 : 1, x.fits(0, pond));
+            due.is("25 in minute 39, by " + pond, pond == 10 ? Fens.NONE : 10, x.lens(0, pond));
+        }
+        Fens.tell(x, 0, anyBut(0));
+        due.is("24 not in minute 39", 14, x.fits(0, 4));
+        due.is("24 not in minute 39, its own", 15, x.fits(0, 10));
+        due.is("25 not in minute 39", 0, x.lens(0, 4));
+        Fens.tell(x, 0, anyBut(-1));
+        due.is("24 any, 40 times", 15, x.fits(0, 4));
+        Fens.tell(x, 0, 1);
+        due.is("25 now", 3, x.lens(0, 4));
+        Fens.tell(x, 0, -1, 1);
+        due.is("25 a minute on", 4, x.lens(0, 5));
+        due.is("25 a minute on, its own", Fens.NONE, x.lens(0, 4));
+        Fens.tell(x, 0, -2);
+        due.is("24 no such set", 0, x.fits(0, 4));
+        Fens.tell(x, 0, 2);
+        due.is("24 no such thing", 0, x.fits(0, 4));
+        Fens.tell(x, 0, 257);
+        due.is("24 more than there can be", 0, x.fits(0, 4));
+    }
+
+    /** The least and the greatest pond can be the lens, and all eight things seen through it. */
+    private static void ofEachBits() {
+        PondLenses x = new PondLenses();
+        for (int thing = 0; thing < 8; thing++) {
+            x.thing(0, 15);
+        }
+        x.sheet(0, 16, 1);
+        x.write(0, 0, 255);
+        due.is("24 all eight", 1, x.fits(0, 4));
+        due.is("25 all eight", 15, x.lens(0, 4));
+        x.sheet(0, 8, 1);
+        x.write(0, 0, 255);
+        due.is("24 255 of 8 bits is any", 15, x.fits(0, 4));
+        x.sheet(0, 16, 1);
+        x.write(0, 0, 65535);
+        due.is("24 65535 of 16 bits is any", 15, x.fits(0, 4));
+        for (int thing = 0; thing < 7; thing++) {
+            x.change(thing, 1, 0);
+        }
+        x.write(0, 0, 127);
+        due.is("25 all but one", 0, x.lens(0, 4));
+        due.is("24 in pond 0, by pond 0", 0, x.fits(0, 0));
+        x.write(0, 0, 128);
+        due.is("25 thing 7", 15, x.lens(0, 4));
+        due.is("24 in pond 15, by pond 15", 0, x.fits(0, 15));
+        x.sheet(0, 8, 1);
+        x.write(0, 0, 128);
+        due.is("24 of 8 bits 128 is -128, and no set", 0, x.fits(0, 4));
+    }
+
+    private static void fortyPlaces() {
+        PondLenses x = roundFish();
+        x.thing(0, 10);
+        x.thing(1, 4);
+        Fens.tell(x, 0, anyBut(10));
+        due.is("26 in minute 39", 3, x.which(0));
+        Fens.tell(x, 0, anyBut(11));
+        due.is("26 in minute 39", 4, x.which(0));
+        int[] told = anyBut(10);
+        told[0] = 3;
+        Fens.tell(x, 0, told);
+        due.is("26 now and in minute 39", 1, x.which(0));
+        told[38] = 10;
+        Fens.tell(x, 0, told);
+        due.is("26 in both places at once", 0, x.which(0));
+        Fens.tell(x, 0, 15);
+        due.is("26 the last pond", 0, x.which(0));
+        x.change(1, 1, 15);
+        due.is("26 the last pond", 2, x.which(0));
+        Fens.tell(x, 0, 0);
+        due.is("26 the first pond", 0, x.which(0));
+        x.change(1, 1, 0);
+        due.is("26 the first pond", 2, x.which(0));
+        Fens.tell(x, 0, 4, 0);
+        due.is("26 what fits later alone", 0, x.which(0));
+        while (x.count(1) < 8) {
+            x.thing(0, 7);
+        }
+        Fens.tell(x, 0, 7);
+        due.is("26 up to thing 7", 0xF8, x.which(0));
+        due.is("26 no finding", 0, x.status(-1));
     }
 
     private static void lacks() {
