@@ -310,6 +310,14 @@ public final class PondsTest {
         x.change(0, 0, 6);
         x.dig(15, 4, 3);
         due.is("5 a pike sees thing 7", 0, x.of(0, 3));
+        x.change(7, 0, 0);
+        due.is("5 a pike sees no fish among eight", 3, x.of(0, 3));
+        x.change(0, 0, 4);
+        due.is("5 nor does a heron", 0, x.of(0, 3));
+        x.change(7, 1, 14);
+        x.change(7, 0, 1);
+        due.is("5 but it does so", 14, x.of(0, 3));
+        x.change(7, 1, 0);
         for (int pond = 1; pond < 16; pond++) {
             x.dig(pond, 0, 0);
         }
